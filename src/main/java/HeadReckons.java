@@ -1430,7 +1430,8 @@ public final class HeadReckons {
                 return draw % 2 == 1 ? slips[i] : -slips[i];
             }
             if (sorts[i] == ADD) {
-                return -slips[i] * Figures.tenTo(draw % Figures.sizeOf(mades[i]));
+                int digits = Figures.sizeOf(mades[i]);
+                return digits < 1 ? 0 : -slips[i] * Figures.tenTo(draw % digits);
             }
             return 0;
         }

@@ -194,8 +194,8 @@ final class RulesTest {
             if (divisor instanceof LiteralTree literal) {
                 return ((Number) literal.getValue()).longValue() != 0;
             }
-            return Set.of("PAIR_BASE", "right", "all", "toldCount", "p", "unit").contains(divisor.toString())
-                    || divisor.toString().equals("INT_TENS[place]") || divisor.toString().startsWith("Figures.sizeOf(");
+            return Set.of("PAIR_BASE", "right", "all", "toldCount", "p", "unit", "digits",
+                    "INT_TENS[place]").contains(divisor.toString());
         }
 
         @Override
