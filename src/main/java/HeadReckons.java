@@ -624,12 +624,11 @@ public final class HeadReckons {
         return true;
     }
 
-    /** An ask's seconds change only as it is learnt: both are reckoned once for all orders. */
+    /** An ask's seconds change only when it is learnt: both are reckoned once for all orders. */
     private void prepareOrders(Head head, int size) {
         for (int i = 0; i < size; i++) {
             order[i] = i;
             thought.become(head);
-            thought.forget();
             reckonChosen(thought, told[i]);
             secondsFresh[i] = acts.seconds();
             for (int k = 0; k < TIMES_TO_LEARN; k++) {
@@ -834,10 +833,6 @@ public final class HeadReckons {
             System.arraycopy(other.pairs, 0, pairs, 0, other.pairCount);
             System.arraycopy(other.counts, 0, counts, 0, other.pairCount);
             pairCount = other.pairCount;
-        }
-
-        void forget() {
-            pairCount = 0;
         }
 
         int number(int what) {

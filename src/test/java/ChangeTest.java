@@ -67,6 +67,30 @@ final class ChangeTest {
         }
     }
 
+    private static void fortyOfManyHeads() {
+        HeadReckons x = Check.withHead("l5a2h3t12c3");
+        Check.head(x, "l5a2h3t12c3");
+        Check.head(x, "l5a2h3t12c3");
+        int[][] was = new int[47][];
+        for (int i = 0; i < 47; i++) {
+            int head = i % 3;
+            int what = i % 5;
+            was[i] = new int[] {head, what, x.of(head, what)};
+            x.turn(head, what, 20 + i % 7);
+        }
+        for (int i = 46; i >= 7; i--) {
+            int now = x.of(was[i][0], was[i][1]);
+            C.due("undo()", x.undo(), i - 7);
+            C.due("of change " + i, x.of(was[i][0], was[i][1]), was[i][2]);
+            C.due("redo()", x.redo(), 0 + 46 - i);
+            C.due("of change " + i, x.of(was[i][0], was[i][1]), now);
+            x.undo();
+        }
+        C.due("the first seven stay", x.undo(), -5);
+        C.due("of(0, 0)", x.of(0, 0), 20);
+        C.due("of(1, 1)", x.of(1, 1), 21);
+    }
+
     private static void onlyNumbersAreUndone() {
         HeadReckons x = Check.withHead("l5a2h3t12c3");
         x.turn(0, 3, 13);
@@ -88,6 +112,7 @@ final class ChangeTest {
         backAndOn();
         anotherCame();
         fortyAreKept();
+        fortyOfManyHeads();
         onlyNumbersAreUndone();
         C.end();
     }

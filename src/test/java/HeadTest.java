@@ -99,12 +99,25 @@ final class HeadTest {
         C.due("of(0, 5) at three", x.of(0, 5), 1);
     }
 
+    private static void headsBeginUntaught() {
+        HeadReckons x = Check.withHead("l1a2h3t10c4");
+        for (int i = 0; i < 3; i++) {
+            x.ask(0, 990098);
+        }
+        x.tell(990097);
+        C.due("in thought two are learnt", x.taught(0, 3, 1), 2);
+        C.due("another head", Check.head(x, "l1a2h3t10c4"), 1);
+        C.due("has learnt nothing", x.of(1, 5), 0);
+        C.due("nor counted", x.ask(1, 990098), 1);
+    }
+
     public static void main(String[] args) {
         feeds();
         heads();
         faults();
         ofAndTurn();
         learntIsTold();
+        headsBeginUntaught();
         C.end();
     }
 }

@@ -57,7 +57,7 @@ final class RootTest {
 
     private static void firsts() {
         HeadReckons x = new HeadReckons();
-        int[] numbers = {1, 4, 7, 16, 25, 64, 81, 99, 100, 121, 243, 512, 999, 1000, 1024, 4096, 7776, 9801, 10000, 15129,
+        int[] numbers = {1, 4, 7, 16, 19, 25, 739, 59059, 64, 81, 99, 100, 121, 243, 512, 999, 1000, 1024, 4096, 7776, 9801, 10000, 15129,
             59049, 99856, 100000, 123456, 161051, 998001, 1000000, 1002001, 1500625, 9765625, 9999999};
         for (int number : numbers) {
             for (int power : POWERS) {
@@ -67,6 +67,16 @@ final class RootTest {
                     C.due("the least, " + number + " " + power + " " + f, x.firsts(number, 100 * power + f, 1), want[1]);
                 }
             }
+        }
+        long ten = 1;
+        for (int size = 1; size <= 18; size++) {
+            for (long number : new long[] {ten, 10 * ten - 1}) {
+                C.that("f at the size of " + number, x.firsts(number, 200 + size, 0) >= 0);
+                C.due("f above the size of " + number, x.firsts(number, 201 + size, 0), -1);
+            }
+            C.due("all roots that begin with 1 and end with 0", x.firsts(ten, 201, 1),
+                    size == 1 ? 1 : size == 2 ? 0 : (int) Math.ceil(Math.sqrt(ten) / 10 - 1e-9) * 10);
+            ten *= 10;
         }
         C.due("2 .. as 18 figures", x.firsts(200000000000000000L, 201, 0), (547722550 - 447213600) / 10 + 1);
         C.due("the least", x.firsts(200000000000000000L, 201, 1), 447213600);

@@ -144,6 +144,10 @@ final class SeenTest {
         like.untell();
         Check.choice(like, "5");
         C.due("SPLIT ahead of CHOSEN", like.best(0, 0), 5);
+        HeadReckons turned = Check.withHead("l5a2h3t12c3");
+        turned.see(Check.pair(12, 304), turned.way(6, Check.pair(12, 304), 0), 0);
+        C.due("TURNED", turned.best(0, 0), 6);
+        C.due("by 0", turned.best(0, 1), 0);
         HeadReckons wrongAnswers = Check.withHead("l5a2h3t12c3");
         wrongAnswers.see(Check.pair(12, 34), 38, -7);
         C.due("answers do not count", wrongAnswers.best(0, 0), 1);
@@ -180,6 +184,17 @@ final class SeenTest {
         C.due("what -1", x.slip(1, 1, -1), -1);
     }
 
+    private static void slipsOfAnyHead() {
+        HeadReckons x = Check.withHead("l5a2h3t9c3");
+        Check.head(x, "l5a2h3t99c3");
+        x.see(Check.pair(99, 99), 38, 9801 - 90000);
+        x.see(Check.pair(70, 34), 38, 2380 - 34);
+        C.due("the other head knows 70 and 34", x.slip(10, 1, 0), 0);
+        C.due("this one does not", x.slip(0, 1, 0), -2);
+        C.due("no ACT slips by 90000", x.slip(11, 0, 1), 0);
+        C.due("TURNED of the other", x.slip(16, 1, 0), -2);
+    }
+
     private static void suits() {
         HeadReckons x = Check.withHead("l5a2h3t12c3");
         C.due("suits of nothing", x.suits(0), -5);
@@ -212,6 +227,7 @@ final class SeenTest {
         fitsBySlips();
         best();
         slips();
+        slipsOfAnyHead();
         suits();
         C.end();
     }

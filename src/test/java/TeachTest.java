@@ -38,6 +38,9 @@ final class TeachTest {
         C.due("KNOWN for none", x.parts(0, 1, 0), -2);
         C.due("KNOWN for none", x.parts(0, 1, 1), -2);
         C.due("no ways", x.parts(0, 0, 0), -2);
+        x.untell();
+        x.tell(Check.pair(9, 9));
+        C.due("KNOWN 5, RIGHT 11", x.parts(0, 5, 1), 6);
         C.due("ways -1", x.parts(0, -1, 0), -1);
         C.due("ways 128", x.parts(0, 128, 0), -1);
         C.due("what 2", x.parts(0, 127, 2), -1);
@@ -185,6 +188,38 @@ final class TeachTest {
         C.due("its seconds", x.first(0, 1), 3 * wide + 3 * 5 + 3 * 5);
     }
 
+    /** Few counts are free, pairs come twice and turned: orders differ, and the Model tries them all. */
+    private static void ordersBesideTheModel() {
+        java.util.Random random = new java.util.Random(7);
+        java.util.Set<Integer> orders = new java.util.HashSet<>();
+        for (int trial = 0; trial < 400; trial++) {
+            HeadReckons x = Check.withHead("l5a2h3t9c3");
+            Model m = new Model();
+            m.minds.add(new Model.Mind(new int[] {5, 2, 3, 9, 3}));
+            m.choice = trial % 3 == 0 ? "0" : trial % 3 == 1 ? "x<y?3;0" : "y<x?2;m=n?0;4";
+            Check.choice(x, m.choice);
+            for (int i = 1; i <= 57 + trial % 4; i++) {
+                x.ask(0, Check.pair(i, 1));
+                m.ask(0, Check.pair(i, 1));
+            }
+            int[] few = new int[4];
+            for (int i = 0; i < 4; i++) {
+                few[i] = Check.pair(60 + random.nextInt(40), 10 + random.nextInt(90));
+            }
+            for (int i = 0; i < 2 + random.nextInt(7); i++) {
+                int pair = few[random.nextInt(4)];
+                pair = random.nextBoolean() ? pair : Check.pair(pair % 10000, pair / 10000);
+                x.tell(pair);
+                m.tell(pair);
+            }
+            int digits = m.first(0, 0);
+            orders.add(digits);
+            C.due("order of trial " + trial, x.first(0, 0), digits);
+            C.due("its seconds", x.first(0, 1), m.first(0, 1));
+        }
+        C.that("many orders came: " + orders.size(), orders.size() > 20);
+    }
+
     public static void main(String[] args) {
         list();
         parts();
@@ -194,6 +229,7 @@ final class TeachTest {
         orders();
         dearerFirst();
         lastCount();
+        ordersBesideTheModel();
         C.end();
     }
 }

@@ -59,6 +59,22 @@ final class WayTest {
         rows(6, 105, 30, new int[][] {{L, 150, 3}, {H, 150, 3}, {L, 3000, 7}, {H, 3000, 7}, {A, 3150, 4}});
     }
 
+    private static void ofAnyHead() {
+        HeadReckons x = Check.withHead("l5a2h3t12c3");
+        for (int head = 1; head < 6; head++) {
+            Check.head(x, "l" + 10 * head + "a0h0t" + (12 + head) + "c40");
+        }
+        for (int head = 0; head < 6; head++) {
+            int look = head == 0 ? 5 : 10 * head;
+            C.due("step of head " + head, x.step(10 * head + 1, Check.pair(12, 34), 1, 2), look);
+            C.due("way of head " + head, x.way(10 * head + 3, Check.pair(12, 34), 0), head == 0 ? 37 : 4 * look);
+            C.due("known by head " + head, x.way(10 * head, Check.pair(12 + head, 2), 2), 1);
+            C.due("not known by head " + head, x.way(10 * head, Check.pair(13 + head, 2), 2), -2);
+            C.due("acts by way 6 of head " + head, x.step(10 * head + 6, Check.pair(12, 34), 0, 1), 60);
+        }
+        C.due("no head 6", x.way(61, 70008, 0), -1);
+    }
+
     private static void notAndBad() {
         HeadReckons x = Check.withHead("l5a2h3t12c3");
         C.due("13 above the table", x.way(0, Check.pair(13, 2), 0), -2);
@@ -203,6 +219,7 @@ final class WayTest {
     public static void main(String[] args) {
         eachWay();
         noughts();
+        ofAnyHead();
         notAndBad();
         allEndAtTheProduct();
         answers();
