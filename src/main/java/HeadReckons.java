@@ -6,7 +6,7 @@ public final class HeadReckons {
     private static final int PAIR_BASE = 10000, MOST_NUMBER = 9999, MOST_TAUGHT = 99;
     private static final int MOST_HEADS = 6, MOST_TOLD = 8, MOST_ORDERED = 5, SHELVES = 6;
     private static final int WAYS = 7, WAY_LEFT = 1, WAY_CHOSEN = 7;
-    private static final int LEAST_TABLE = 9, MOST_TABLE = 99, TIMES_TO_LEARN = 3;
+    private static final int LEAST_TABLE = 9, MOST_TABLE = 99, TIMES_TO_LEARN = 3, TIMES_EACH = 3;
 
     private final Tape tape;
     private final Head[] heads;
@@ -593,7 +593,8 @@ public final class HeadReckons {
                 return false;
             }
             int off = offOf(ask);
-            if (Math.abs(acts.seconds() - seenAsks.tenths(ask)) > x || (off != 0 && acts.howManyCan(off) == 0)) {
+            boolean canBe = off == 0 || acts.firstThatCan(off) != NOT;
+            if (!canBe || Math.abs(acts.seconds() - seenAsks.tenths(ask)) > x) {
                 return false;
             }
         }
@@ -644,9 +645,9 @@ public final class HeadReckons {
         int seconds = 0;
         for (int i = 0; i < size; i++) {
             int place = order[i];
-            for (int k = 0; k < 3; k++) {
-                seconds += thought.hasLearnt(told[place]) ? secondsLearnt[place] : secondsFresh[place];
-                thought.hear(told[place]);
+            for (int k = 0; k < TIMES_EACH; k++) {
+                boolean wasLearnt = thought.hear(told[place]) > TIMES_TO_LEARN;
+                seconds += wasLearnt ? secondsLearnt[place] : secondsFresh[place];
             }
         }
         return seconds;
@@ -850,11 +851,9 @@ public final class HeadReckons {
         }
 
         boolean looksUp(int ab) {
-            boolean inTable = ab / PAIR_BASE <= numbers[TABLE] && ab % PAIR_BASE <= numbers[TABLE];
-            return inTable || hasLearnt(ab);
-        }
-
-        boolean hasLearnt(int ab) {
+            if (ab / PAIR_BASE <= numbers[TABLE] && ab % PAIR_BASE <= numbers[TABLE]) {
+                return true;
+            }
             int i = placeOf(ab);
             return i < pairCount && counts[i] >= TIMES_TO_LEARN;
         }
