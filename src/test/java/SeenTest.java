@@ -192,6 +192,9 @@ final class SeenTest {
         C.due("the other head knows 70 and 34", x.slip(10, 1, 0), 0);
         C.due("this one does not", x.slip(0, 1, 0), -2);
         C.due("no ACT slips by 90000", x.slip(11, 0, 1), 0);
+        x.see(Check.pair(9, 9), 5, 81 - 10);
+        x.way(1, Check.pair(12, 34), 0);
+        C.due("what another way made does not count", x.slip(0, 2, 1), 0);
         C.due("TURNED of the other", x.slip(16, 1, 0), -2);
     }
 

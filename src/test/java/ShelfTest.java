@@ -89,9 +89,11 @@ final class ShelfTest {
         C.due("put at 60", x.put(0, 60, 5L), -13);
         C.due("put at -1", x.put(0, -1, 5L), -13);
         C.due("put", x.put(0, 59, 5L), 1);
+        C.due("put", x.put(0, 0, 5L), 1);
         C.due("element", x.element(0, 59), 5);
         C.due("a new row", x.row(0, 3, 60), 1);
         C.due("is 0 again", x.element(0, 59), 0);
+        C.due("is 0 again", x.element(0, 0), 0);
         C.due("put on nothing", x.put(2, 0, 5L), -11);
         C.due("put on no shelf", x.put(6, 0, 5L), -1);
         C.due("put on shelf -1", x.put(-1, 0, 5L), -1);
