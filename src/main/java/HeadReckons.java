@@ -56,15 +56,14 @@ public final class HeadReckons {
     }
 
     public int head() {
-        int fault = thought.read(tape);
-        if (fault >= 0) {
-            tape.clear();
-            return -100 - fault;
-        }
         if (headCount >= MOST_HEADS) {
             return FULL;
         }
+        int fault = thought.read(tape);
         tape.clear();
+        if (fault >= 0) {
+            return -100 - fault;
+        }
         heads[headCount].become(thought);
         headCount++;
         return headCount - 1;

@@ -44,8 +44,27 @@ final class HeadTest {
         C.due("the tape stays", x.count(2), 11);
         C.due("heads stay", x.count(0), 6);
         C.due("as a choice it has a fault", x.choice(), -100);
-        C.due("a fault is told ahead of FULL", Check.head(x, "l5b"), -102);
-        C.due("and the tape is empty", x.count(2), 0);
+        C.due("heads stay as they were", x.of(5, 3), 11);
+    }
+
+    /** With six HEADS no other can come, whatever the tape holds; and the tape stays. */
+    private static void fullWhateverTheTapeHolds() {
+        HeadReckons x = new HeadReckons();
+        for (int i = 0; i < 5; i++) {
+            C.due("head", Check.head(x, "l1a2h3t10c4"), i);
+        }
+        C.due("with five a fault is told", Check.head(x, "l1b"), -102);
+        C.due("head 5", Check.head(x, "l1a2h3t10c4"), 5);
+        String[] texts = {"", "x", "l", "l5b", "l1a2h3t8c4", "l1a2h3t10c0", "l1a2h3t10c4x", "l1a2h3t10c4", "m"};
+        for (String text : texts) {
+            Check.feed(x, text);
+            C.due("head of " + text + " with six", x.head(), -3);
+            C.due("again", x.head(), -3);
+            C.due("the tape stays", x.count(2), text.length());
+            C.due("so do the heads", x.count(0), 6);
+            boolean isName = text.equals("x") || text.equals("m");
+            C.due("what stayed, as a choice", x.choice(), isName ? 1 : -100);
+        }
     }
 
     private static void faults() {
@@ -114,6 +133,7 @@ final class HeadTest {
     public static void main(String[] args) {
         feeds();
         heads();
+        fullWhateverTheTapeHolds();
         faults();
         ofAndTurn();
         learntIsTold();

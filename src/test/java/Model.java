@@ -286,6 +286,7 @@ final class Model {
     static final int[] MOST = {99, 99, 99, 99, 40};
 
     int head() {
+        refuseIf(minds.size() == 6, FULL);
         int[] numbers = new int[5];
         String rest = tape;
         for (int i = 0; i <= 5; i++) {
@@ -309,9 +310,6 @@ final class Model {
             }
             numbers[i] = value;
             rest = rest.substring(1 + digits.length());
-        }
-        if (minds.size() == 6) {
-            return FULL;
         }
         tape = "";
         minds.add(new Mind(numbers));

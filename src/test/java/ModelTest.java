@@ -82,6 +82,14 @@ final class ModelTest {
         return oneIn(3) ? spoilt(text) : text;
     }
 
+    /** Six heads: what head() answers when it is full. */
+    private void fillHeads() {
+        for (int i = 0; i < 6; i++) {
+            feed("l" + upTo(9) + "a" + upTo(9) + "h" + upTo(9) + "t" + (9 + upTo(30)) + "c" + (1 + upTo(8)));
+            due("head", new int[0], x.head(), m.head());
+        }
+    }
+
     private String spoilt(String text) {
         int place = upTo(text.length());
         String sign = String.valueOf(SIGNS.charAt(random.nextInt(SIGNS.length())));
@@ -547,6 +555,9 @@ final class ModelTest {
         int runs = args.length > 0 ? Integer.parseInt(args[0]) : 400;
         for (int seed = 1; seed <= runs; seed++) {
             ModelTest test = new ModelTest(seed);
+            if (seed % 5 == 0) {
+                test.fillHeads();
+            }
             for (int call = 0; call < 450; call++) {
                 test.draw();
             }
