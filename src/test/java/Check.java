@@ -3,9 +3,27 @@ final class Check {
     private final String name;
     private int checked;
     private int wrong;
+    private String sentence = "";
+    private int sentences;
+    private int checkedAhead;
 
     Check(String name) {
         this.name = name;
+    }
+
+    /** What is due from here on holds these words of the document; a test that holds nothing is wrong itself. */
+    void sentence(String words) {
+        closeSentence();
+        sentence = " [" + words + "]";
+        sentences++;
+        checkedAhead = checked;
+    }
+
+    private void closeSentence() {
+        if (sentences > 0 && checked == checkedAhead) {
+            wrong++;
+            System.out.println(name + ": nothing is due for" + sentence);
+        }
     }
 
     void due(String call, long got, long want) {
@@ -13,7 +31,7 @@ final class Check {
         if (got != want) {
             wrong++;
             if (wrong <= 40) {
-                System.out.println(name + ": " + call + " answered " + got + ", due is " + want);
+                System.out.println(name + sentence + ": " + call + " answered " + got + ", due is " + want);
             }
         }
     }
@@ -57,7 +75,9 @@ final class Check {
     }
 
     void end() {
-        System.out.println(name + ": " + (checked - wrong) + " of " + checked + " as due");
+        closeSentence();
+        System.out.println(name + ": " + (checked - wrong) + " of " + checked + " as due"
+                + (sentences > 0 ? ", " + sentences + " sentences" : ""));
         if (wrong != 0 || checked == 0) {
             System.exit(1);
         }

@@ -126,7 +126,6 @@ final class ChoiceTest {
     }
 
     private static void faults() {
-        HeadReckons x = new HeadReckons();
         String[] texts = {"", "q", "m+", "m n", " m", "12345", "m1", "1m", "m<n<x", "m<n=x", "m=n&x>y", "(m", "(m))",
             "m)", "()", "m?", "m?n?x", "m;", ";m", "m;;n", "?m", "m?;n", "(m?n)", "(m;n)", "((((((m))))))",
             "(((((((m", "!-!-!-m", "!-!-!-!m", "!-!-!-(m)", "m!", "m!n", "m&&n", "m|", "M", "m*/n", "m--n", "m---n",
@@ -142,6 +141,7 @@ final class ChoiceTest {
             2, 2, 2, 2, 2, 2, 2, 2, 2, 1, 1, 1, 3, 4, 4,
             -1, -1, 8, 14, -1, 7};
         for (int i = 0; i < texts.length; i++) {
+            HeadReckons x = new HeadReckons();
             int want = faults[i] < 0 ? 1 : -100 - faults[i];
             C.due("choice of " + texts[i], Check.choice(x, texts[i]), want);
             C.due("the tape is empty", x.count(2), 0);

@@ -13,14 +13,15 @@ final class RootTest {
     }
 
     private static void roots() {
-        HeadReckons x = new HeadReckons();
         for (int power : POWERS) {
             int most = power == 2 ? 999999999 : power == 3 ? 999999 : 3981;
             for (int r = 1; r <= most; r += r < 4000 ? 1 : r / 7) {
+                HeadReckons x = new HeadReckons();
                 long n = raised(r, power);
                 C.due("root of " + n, x.root(n, power), r);
                 C.due("root beside " + n, x.root(n + 1, power), 0);
             }
+            HeadReckons x = new HeadReckons();
             C.due("the greatest root", x.root(raised(most, power), power), most);
             C.due("root of 1", x.root(1, power), 1);
             C.due("root of 2", x.root(2, power), 0);
@@ -31,6 +32,7 @@ final class RootTest {
             C.due("root of the least long", x.root(Long.MIN_VALUE, power), -1);
             C.due("root of the most long", x.root(Long.MAX_VALUE, power), -1);
         }
+        HeadReckons x = new HeadReckons();
         int[] wrong = {-2, 0, 1, 4, 6, 7, 10, Integer.MAX_VALUE, Integer.MIN_VALUE};
         for (int power : wrong) {
             C.due("power " + power, x.root(64, power), -1);
@@ -56,10 +58,10 @@ final class RootTest {
     }
 
     private static void firsts() {
-        HeadReckons x = new HeadReckons();
         int[] numbers = {1, 4, 7, 16, 19, 25, 90, 739, 990, 59059, 64, 81, 99, 100, 121, 243, 512, 999, 1000, 1024, 4096, 7776, 9801, 10000, 15129,
             59049, 99856, 100000, 123456, 161051, 998001, 1000000, 1002001, 1500625, 9765625, 9999999};
         for (int number : numbers) {
+            HeadReckons x = new HeadReckons();
             for (int power : POWERS) {
                 for (int f = 1; f <= String.valueOf(number).length(); f++) {
                     int[] want = tried(number, power, f);
@@ -68,6 +70,7 @@ final class RootTest {
                 }
             }
         }
+        HeadReckons x = new HeadReckons();
         long ten = 1;
         for (int size = 1; size <= 18; size++) {
             for (long number : new long[] {ten, 10 * ten - 1}) {
@@ -105,9 +108,9 @@ final class RootTest {
     }
 
     private static void enough() {
-        HeadReckons x = new HeadReckons();
         for (int power : POWERS) {
             for (int r = 1; raised(r, power) < 10000000; r++) {
+                HeadReckons x = new HeadReckons();
                 int number = (int) raised(r, power);
                 int f = 1;
                 while (x.firsts(number, 100 * power + f, 0) != 1) {
@@ -116,6 +119,7 @@ final class RootTest {
                 C.due("enough of " + number, x.enough(number, power), f);
             }
         }
+        HeadReckons x = new HeadReckons();
         C.due("4: 4 alone begins so", x.enough(4, 2), 1);
         C.due("121: 11 and 19 begin unlike at the second", x.enough(121, 2), 1);
         C.due("441: 21 alone; 29 is 841", x.enough(441, 2), 1);

@@ -112,10 +112,10 @@ final class WayTest {
 
     /** The last act's number is the product, but where what is left stands in front or is held. */
     private static void allEndAtTheProduct() {
-        HeadReckons x = Check.withHead("l5a2h3t99c3");
         int[] some = {1, 2, 9, 10, 42, 90, 100, 101, 808, 999, 1000, 2468, 9090, 9999};
         for (int a : some) {
             for (int b : some) {
+                HeadReckons x = Check.withHead("l5a2h3t99c3");
                 int ab = Check.pair(a, b);
                 for (int way : new int[] {0, 1, 4, 5}) {
                     int acts = x.way(way, ab, 2);
@@ -152,9 +152,9 @@ final class WayTest {
     }
 
     private static void answers() {
-        HeadReckons x = Check.withHead("l5a2h3t12c1");
-        HeadReckons roomy = Check.withHead("l5a2h3t12c6");
         for (int seed = -300; seed <= 300; seed++) {
+            HeadReckons x = Check.withHead("l5a2h3t12c1");
+            HeadReckons roomy = Check.withHead("l5a2h3t12c6");
             int known = lookSlip(drawn(seed, 1), 2, 11);
             C.due("KNOWN slips by the lesser number", x.answer(0, Check.pair(12, 11), seed), 132 + known);
             int left = lookSlip(drawn(seed, 1), 2, 100) + lookSlip(drawn(seed, 2), 2, 10) + addSlip(drawn(seed, 3), 2, 3, 1)
