@@ -74,6 +74,14 @@ final class Check {
         return 10000 * a + b;
     }
 
+    static long raised(long r, int power) {
+        long n = 1;
+        for (int i = 0; i < power; i++) {
+            n *= r;
+        }
+        return n;
+    }
+
     void end() {
         closeSentence();
         System.out.println(name + ": " + (checked - wrong) + " of " + checked + " as due"

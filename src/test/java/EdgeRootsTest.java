@@ -7,14 +7,6 @@ final class EdgeRootsTest {
     private static final int[] WRONG_POWERS = {MIN, -2, -1, 0, 1, 4, 6, 7, 8, 20, 200, MAX};
     private static final long[] WRONG_NUMBERS = {Long.MIN_VALUE, -1000000000000000000L, -4L, -1L, 0L, MOST + 1, MOST + 2, Long.MAX_VALUE};
 
-    private static long raised(long r, int power) {
-        long n = 1;
-        for (int i = 0; i < power; i++) {
-            n *= r;
-        }
-        return n;
-    }
-
     private static void rootBounds() {
         C.sentence("ROOTS: of a number N (a long, 1 .. 999999999999999999) by a power k (2, 3, 5)");
         for (int power : POWERS) {
@@ -48,19 +40,19 @@ final class EdgeRootsTest {
         for (int i = 0; i < 3; i++) {
             for (long r = most[i]; r > most[i] - 30; r--) {
                 HeadReckons x = new HeadReckons();
-                long n = raised(r, POWERS[i]);
+                long n = Check.raised(r, POWERS[i]);
                 C.due("root of " + n, x.root(n, POWERS[i]), r);
                 C.due("root of one more", x.root(n + 1, POWERS[i]), 0);
                 C.due("root of one less", x.root(n - 1, POWERS[i]), 0);
             }
             for (long r = 2; r <= 30; r++) {
                 HeadReckons x = new HeadReckons();
-                long n = raised(r, POWERS[i]);
+                long n = Check.raised(r, POWERS[i]);
                 C.due("root of " + n, x.root(n, POWERS[i]), r);
                 C.due("root of one more", x.root(n + 1, POWERS[i]), 0);
                 C.due("root of one less", x.root(n - 1, POWERS[i]), 0);
             }
-            C.that("the next one's power is above the greatest N", most[i] + 1 == 1000000000L || raised(most[i] + 1, POWERS[i]) > MOST);
+            C.that("the next one's power is above the greatest N", Check.raised(most[i] + 1, POWERS[i]) > MOST);
         }
         HeadReckons x = new HeadReckons();
         C.due("a square is no cube", x.root(4, 3), 0);
@@ -105,7 +97,7 @@ final class EdgeRootsTest {
                     int many = 0;
                     int least = 0;
                     for (int r = 100; r >= 1; r--) {
-                        String raised = String.valueOf(raised(r, power));
+                        String raised = String.valueOf(Check.raised(r, power));
                         if (raised.length() == figures.length() && raised.startsWith(figures.substring(0, f))
                                 && raised.charAt(raised.length() - 1) == figures.charAt(figures.length() - 1)) {
                             many++;
@@ -133,7 +125,7 @@ final class EdgeRootsTest {
                     int many = 0;
                     int least = 0;
                     for (int r = power == 3 ? 999999 : 3981; r >= 1; r--) {
-                        long n = raised(r, power);
+                        long n = Check.raised(r, power);
                         if (n % 10 == number % 10 && n >= 100000000000000000L && String.valueOf(n).startsWith(figures.substring(0, f))) {
                             many++;
                             least = r;
@@ -155,9 +147,9 @@ final class EdgeRootsTest {
     private static void enoughFirsts() {
         C.sentence("ENOUGH firsts of N, which is a whole power. BAD; NOT: it is not. The least f by which there is one alone.");
         for (int power : POWERS) {
-            for (int r = 1; r <= 1100 && raised(r, power) < 2000000000L; r++) {
+            for (int r = 1; r <= 1100 && Check.raised(r, power) < 2000000000L; r++) {
                 HeadReckons x = new HeadReckons();
-                long number = raised(r, power);
+                long number = Check.raised(r, power);
                 int f = x.enough(number, power);
                 C.due("one alone by " + f + " of " + number, x.firsts(number, 100 * power + f, 0), 1);
                 C.due("it is the root", x.firsts(number, 100 * power + f, 1), r);
@@ -260,6 +252,7 @@ final class EdgeRootsTest {
             C.due("one stands", x.count(4), 1);
             C.due("none behind", x.redo(), -5);
         }
+        fortyOfAllNumbers();
         HeadReckons x = turned(40);
         x.undo();
         x.turn(0, 0, 99);
@@ -268,6 +261,28 @@ final class EdgeRootsTest {
             C.due("undo()", x.undo(), left);
         }
         C.due("none was forgotten", x.of(0, 0), 0);
+    }
+
+    /** 47 changes, each of another HEAD and number than the one ahead: the 40 latest go back, and on again. */
+    private static void fortyOfAllNumbers() {
+        HeadReckons x = new HeadReckons();
+        for (int head = 0; head <= 3; head++) {
+            Check.head(x, "l5a5h5t15c5");
+        }
+        int[] was = new int[47];
+        for (int i = 0; i < 47; i++) {
+            was[i] = x.turn(i % 4, i % 5, 16 + i % 23);
+        }
+        for (int i = 46; i >= 7; i--) {
+            C.due("undo() of change " + i, x.undo(), i - 7);
+            C.due("what it was", x.of(i % 4, i % 5), was[i]);
+        }
+        C.due("no more", x.undo(), -5);
+        for (int i = 7; i < 47; i++) {
+            C.due("redo() of change " + i, x.redo(), 46 - i);
+            C.due("what it became", x.of(i % 4, i % 5), 16 + i % 23);
+        }
+        C.due("no more", x.redo(), -5);
     }
 
     private static void ofAllNumbers() {

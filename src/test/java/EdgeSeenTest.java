@@ -286,6 +286,11 @@ final class EdgeSeenTest {
         C.due("RIGHT ahead of TURNED", y.best(0, 0), 2);
         Check.choice(y, "6");
         C.due("and ahead of CHOSEN", y.best(0, 0), 2);
+        HeadReckons turned = Check.withHead(HEAD);
+        int ab = Check.pair(12, 304);
+        turned.see(ab, turned.way(6, ab, 0), 408);
+        C.due("TURNED", turned.best(0, 0), 6);
+        C.due("by 0", turned.best(0, 1), 0);
         HeadReckons z = Check.withHead(HEAD);
         Check.choice(z, "x=y?0;2");
         z.see(AB, 51, 408);
@@ -346,6 +351,23 @@ final class EdgeSeenTest {
             C.due("slip(1, " + wrong + ", 0)", x.slip(1, wrong, 0), -1);
         }
         C.due("1 less: the ADDs", x.slip(1, 1, 1), 3);
+    }
+
+    private static void noActLeftBehind() {
+        C.sentence("the first ACT that alone can have slipped so: none that another WAY made");
+        for (int way : new int[] {0, 1, 2, 5, 6}) {
+            HeadReckons x = Check.withHead(HEAD);
+            x.see(Check.pair(2, 4), 1, 8 - 10);
+            x.see(Check.pair(2, 4), 1, 8 - 1);
+            for (int ask = 0; ask <= 1; ask++) {
+                x.way(1, 99999999, 0);
+                C.due("way " + way + ": no ADD", x.slip(way, ask, 0), -2);
+                x.way(1, 99999999, 0);
+                C.due("way " + way + ": none can", x.slip(way, ask, 1), 0);
+                x.way(1, 99999999, 0);
+                C.due("no WAY has both", x.fits(0, 9999), 0);
+            }
+        }
     }
 
     private static void suitsBounds() {
@@ -420,6 +442,7 @@ final class EdgeSeenTest {
         bestOfLike();
         whichSlip();
         slipBounds();
+        noActLeftBehind();
         suitsBounds();
         halfOrLess();
         thousandthsCut();

@@ -69,35 +69,10 @@ final class EdgeShelvesTest {
         C.due("slips of CROSSED 4", x.act(4, 2, MAX), 2147483633);
         C.due("tells of SQUARED 5", x.act(5, 3, -1073741824 - 5), 2147483641);
         C.due("costs of SPLIT 6", x.act(6, 0, MAX), MIN + 9);
+        C.due("slips of SPLIT 6, and its costs of 2", x.act(6, 2, MAX ^ 6), MIN + 11);
         C.due("slips of KNOWN 7", x.act(7, 2, MIN + 7), MAX);
         C.due("keeps of ROOTED 8", x.act(8, 1, 536870912 - 8), MIN);
         C.due("tells of ROOTED 8", x.act(8, 3, 536870912 - 8), MAX - 16);
-    }
-
-    private static void nearestBody() {
-        C.sentence("costs(..) and so on: the body of its own KIND, or of the next KIND above that has one; super: from the KIND above on");
-        int[][][] traces = {
-            {{1}, {10, 1}, {11}, {2, 10, 1, 11}},
-            {{20, 1}, {10, 20, 1}, {11}, {2, 10, 20, 1, 11}},
-            {{1}, {30, 10, 1}, {11}, {2, 30, 10, 1, 11}},
-            {{1}, {30, 10, 1}, {40, 11}, {2, 30, 10, 1, 40, 11}},
-            {{1}, {10, 1}, {11}, {50, 2, 10, 1, 11}},
-            {{60, 20, 1}, {10, 60, 20, 1}, {61, 11, 60, 20, 1}, {2, 10, 60, 20, 1, 61, 11, 60, 20, 1}},
-            {{1}, {10, 1}, {70, 11}, {2, 10, 1, 70, 11}},
-            {{1}, {80, 10, 1}, {70, 11}, {81, 2, 80, 10, 1, 70, 11, 70, 11}}};
-        for (int kind = 0; kind <= 7; kind++) {
-            HeadReckons x = new HeadReckons();
-            x.body(kind);
-            for (int act = 0; act <= 3; act++) {
-                x.act(0, act, 7);
-                int[] trace = traces[kind][act];
-                C.due("ran", x.count(6), trace.length);
-                for (int i = 0; i < trace.length; i++) {
-                    C.due("kind " + kind + ", act " + act + ", body " + i, x.trace(i), trace[i]);
-                }
-                C.due("none behind", x.trace(trace.length), -1);
-            }
-        }
     }
 
     private static void traceBounds() {
@@ -415,7 +390,6 @@ final class EdgeShelvesTest {
         fiftyBodies();
         noSuchBodyOrAct();
         wraps();
-        nearestBody();
         traceBounds();
         keepBounds();
         rowBounds();

@@ -94,6 +94,11 @@ final class EdgeTeachTest {
         }
         C.due("the first of three", x.parts(0, 16 + 2, 0), 1);
         C.due("no WAY parts: the first", x.parts(0, 8, 0), 0);
+        HeadReckons y = Check.withHead("l5a2h3t12c6");
+        y.tell(Check.pair(13, 4));
+        y.tell(Check.pair(7, 9));
+        C.due("KNOWN 5 and RIGHT 11", y.parts(0, 1 + 4, 0), 1);
+        C.due("by 6", y.parts(0, 1 + 4, 1), 6);
     }
 
     private static void numbersTo99() {
@@ -172,6 +177,23 @@ final class EdgeTeachTest {
         }
         x.ask(0, Check.pair(61, 99));
         C.due("60 at most", x.of(0, 5), 60);
+    }
+
+    private static void headsBeginUnasked() {
+        C.sentence("each pair that is ASKED (by call) of a HEAD: of none that comes later, and not in thought");
+        HeadReckons x = knowing();
+        for (int i = 0; i < 3; i++) {
+            x.ask(0, AB);
+        }
+        x.tell(Check.pair(23, 45));
+        C.due("in thought", x.taught(0, 3, 1), 2);
+        Check.head(x, HEAD);
+        C.due("HEAD 1 has LEARNT nothing", x.of(1, 5), 0);
+        C.due("its first count", x.ask(1, AB), 1);
+        C.due("its first count", x.ask(1, Check.pair(23, 45)), 1);
+        C.due("HEAD 0 has LEARNT one", x.of(0, 5), 1);
+        C.due("a look is no ASK", x.chosen(0, Check.pair(23, 45)) + x.way(1, Check.pair(23, 45), 2), 1 + 7);
+        C.due("its first count", x.ask(0, Check.pair(23, 45)), 1);
     }
 
     private static void taughtBounds() {
@@ -375,6 +397,7 @@ final class EdgeTeachTest {
         learntAt3();
         sixtyPairs();
         allSixtyLearnt();
+        headsBeginUnasked();
         taughtBounds();
         againAndAgain();
         countedAhead();

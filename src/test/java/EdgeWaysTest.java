@@ -110,6 +110,24 @@ final class EdgeWaysTest {
         }
     }
 
+    private static void tenTimesTheHead() {
+        C.sentence("hw: 10 times the HEAD, and the WAY: each HEAD by its own numbers");
+        HeadReckons x = new HeadReckons();
+        for (int head = 0; head <= 5; head++) {
+            Check.head(x, "l" + (1 + head) + "a0h0t" + (10 + head) + "c" + (1 + head));
+        }
+        x.see(Check.pair(1, 14), 5, 15);
+        for (int head = 0; head <= 5; head++) {
+            for (int way = 1; way <= 3; way++) {
+                C.due("way of HEAD " + head, x.way(10 * head + way, Check.pair(1, 14), 0), 2 * (1 + head));
+                C.due("step of HEAD " + head, x.step(10 * head + way, Check.pair(1, 14), 0, 2), 1 + head);
+            }
+            C.due("way 0 of HEAD " + head, x.way(10 * head, Check.pair(1, 14), 0), head < 4 ? -2 : 1 + head);
+            C.due("answer by way 0 of HEAD " + head, x.answer(10 * head, Check.pair(1, 14), 0), head < 4 ? VOID : 14);
+            C.due("slip by way 0 of HEAD " + head, x.slip(10 * head, 0, 0), head < 4 ? -2 : 0);
+        }
+    }
+
     private static void whats() {
         C.sentence("SECONDS in tenths (what 0), HOLDS (1), how many ACTS (2). BAD; NOT.");
         HeadReckons x = Check.withHead(HEAD);
@@ -406,12 +424,10 @@ final class EdgeWaysTest {
 
     private static int answers(int way, int a, int b, int capacity) {
         int[] lesser = new int[100];
-        lesser[1] = 1;
-        lesser[7] = 1;
-        lesser[14] = 2;
-        lesser[21] = 3;
-        lesser[49] = 7;
-        lesser[81] = 9;
+        int[][] products = {{1, 1}, {3, 1}, {4, 1}, {6, 2}, {7, 1}, {8, 2}, {14, 2}, {21, 3}, {49, 7}, {81, 9}};
+        for (int[] product : products) {
+            lesser[product[0]] = product[1];
+        }
         int ab = Check.pair(a, b);
         HeadReckons told = Check.withHead("l5a2h3t12c" + capacity);
         int[][] acts = new int[told.way(way, ab, 2)][3];
@@ -434,7 +450,7 @@ final class EdgeWaysTest {
     private static void draws() {
         C.sentence("a draw z = z * 1103515245 + 12345 (an int; SEED at first): if (z >>> 8) % 100 is below 5 o (95 at most), it SLIPS");
         int[][] all = {{1, 7777, 3333}, {2, 7777, 3333}, {3, 7777, 3333}, {6, 7777, 3333}, {1, 9999, 9999}, {2, 9999, 9999},
-            {3, 9999, 9999}, {4, 88, 66}, {5, 1111, 77}, {3, 70, 30}, {2, 7007, 33}, {4, 9, 9}};
+            {3, 9999, 9999}, {4, 88, 66}, {5, 1111, 77}, {3, 70, 30}, {2, 7007, 33}, {4, 9, 9}, {3, 12, 34}};
         for (int[] one : all) {
             int most = Check.withHead("l5a2h3t12c1").way(one[0], Check.pair(one[1], one[2]), 1);
             for (int capacity : new int[] {1, 2, 3, 5, 6, 7, most - 2, most - 1}) {
@@ -459,6 +475,17 @@ final class EdgeWaysTest {
                 wrong += below.answer(one[0], ab, seed) == one[1] * one[2] ? 0 : 1;
             }
             C.that("way " + one[0] + " with one digit too few slips", wrong > 0);
+        }
+    }
+
+    private static void noActLeftBehind() {
+        C.sentence("AN ANSWER by a HEAD, WAY and SEED: ACTS in order, and none that another WAY made");
+        for (int seed = 0; seed < 100; seed++) {
+            HeadReckons x = Check.withHead("l5a2h3t12c1");
+            x.way(2, 99999999, 0);
+            C.due("one digit, CAPACITY 1, seed " + seed, x.answer(1, Check.pair(2, 3), seed), 6);
+            x.answer(3, 99999999, seed);
+            C.due("one digit again", x.answer(0, Check.pair(2, 3), seed), 6);
         }
     }
 
@@ -539,7 +566,10 @@ final class EdgeWaysTest {
         C.due("10 by 1", x.table(0, Check.pair(13, 10), 5), 13);
         C.due("98", x.table(0, Check.pair(98, 98), 5), 98);
         C.due("99 is the greatest", x.table(0, Check.pair(99, 99), 5), 99);
-        C.due("100 by 99 is known by none", x.table(0, Check.pair(111, 99), 5), -2);
+        C.due("100 by 99 is KNOWN by none", x.table(0, Check.pair(111, 99), 5), -2);
+        C.due("99 by 100", x.table(0, Check.pair(99, 100), 5), -2);
+        C.due("100 by 1 is LEFT of one LOOK", x.table(0, Check.pair(100, 1), 5), 9);
+        C.due("100 by 11 takes two LOOKs and an ADD", x.table(0, Check.pair(100, 11), 5), -2);
         C.due("not in 4", x.table(0, Check.pair(99, 99), 4), -2);
         C.due("nor below 0", x.table(0, Check.pair(1, 1), -1), -2);
         C.due("nor so", x.table(0, Check.pair(1, 1), MIN), -2);
@@ -556,11 +586,23 @@ final class EdgeWaysTest {
         for (int head : new int[] {MIN, -1, 1, 6, MAX}) {
             C.due("head " + head, x.table(head, 70008, 9), -1);
         }
+        Check.head(x, "l1a0h0t9c6");
+        Check.choice(x, "0");
+        C.due("of HEAD 0, whose LOOK takes 5", x.table(0, Check.pair(13, 12), 4), -2);
+        C.due("of HEAD 1, whose LOOK takes 1", x.table(1, Check.pair(13, 12), 4), 9);
+        for (int i = 0; i < 3; i++) {
+            x.ask(0, Check.pair(12, 13));
+        }
+        C.due("LEARNT by HEAD 0", x.table(0, Check.pair(13, 12), 5), 9);
+        x.turn(0, 0, 6);
+        C.due("HEAD 0 as it is now", x.table(0, Check.pair(13, 12), 5), -2);
+        C.due("HEAD 1 did not learn it", x.table(1, Check.pair(13, 12), 3), 13);
     }
 
     public static void main(String[] args) {
         numbersTo9999();
         headsAndWays();
+        tenTimesTheHead();
         whats();
         firstAndLastAct();
         lookedUp();
@@ -579,6 +621,7 @@ final class EdgeWaysTest {
         endAtTheProduct();
         draws();
         moreThanCapacity();
+        noActLeftBehind();
         knownSlips();
         quickestWithin();
         leastSeconds();

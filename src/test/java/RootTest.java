@@ -4,25 +4,17 @@ final class RootTest {
     private static final long MOST = 999999999999999999L;
     private static final int[] POWERS = {2, 3, 5};
 
-    private static long raised(long r, int power) {
-        long n = 1;
-        for (int i = 0; i < power; i++) {
-            n *= r;
-        }
-        return n;
-    }
-
     private static void roots() {
         for (int power : POWERS) {
             int most = power == 2 ? 999999999 : power == 3 ? 999999 : 3981;
             for (int r = 1; r <= most; r += r < 4000 ? 1 : r / 7) {
                 HeadReckons x = new HeadReckons();
-                long n = raised(r, power);
+                long n = Check.raised(r, power);
                 C.due("root of " + n, x.root(n, power), r);
                 C.due("root beside " + n, x.root(n + 1, power), 0);
             }
             HeadReckons x = new HeadReckons();
-            C.due("the greatest root", x.root(raised(most, power), power), most);
+            C.due("the greatest root", x.root(Check.raised(most, power), power), most);
             C.due("root of 1", x.root(1, power), 1);
             C.due("root of 2", x.root(2, power), 0);
             C.due("root of the greatest", x.root(MOST, power), 0);
@@ -46,8 +38,8 @@ final class RootTest {
         String digits = String.valueOf(number);
         int many = 0;
         int least = 0;
-        for (int r = 1; raised(r, power) < 20000000; r++) {
-            String s = String.valueOf(raised(r, power));
+        for (int r = 1; Check.raised(r, power) < 20000000; r++) {
+            String s = String.valueOf(Check.raised(r, power));
             if (s.length() == digits.length() && s.startsWith(digits.substring(0, f))
                     && s.endsWith(digits.substring(digits.length() - 1))) {
                 many++;
@@ -109,9 +101,9 @@ final class RootTest {
 
     private static void enough() {
         for (int power : POWERS) {
-            for (int r = 1; raised(r, power) < 10000000; r++) {
+            for (int r = 1; Check.raised(r, power) < 10000000; r++) {
                 HeadReckons x = new HeadReckons();
-                int number = (int) raised(r, power);
+                int number = (int) Check.raised(r, power);
                 int f = 1;
                 while (x.firsts(number, 100 * power + f, 0) != 1) {
                     f++;
