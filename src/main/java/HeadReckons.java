@@ -31,7 +31,7 @@ public final class HeadReckons {
             heads[i] = new Head();
         }
         thought = new Head();
-        chooser = new Choice(tape);
+        chooser = new Choice();
         acts = new Acts();
         seenAsks = new SeenAsks();
         told = new int[MOST_TOLD];
@@ -89,7 +89,7 @@ public final class HeadReckons {
     }
 
     public int choice() {
-        int fault = chooser.read();
+        int fault = chooser.read(tape);
         tape.clear();
         return fault >= 0 ? -100 - fault : 1;
     }
@@ -759,6 +759,11 @@ public final class HeadReckons {
             length = 0;
         }
 
+        void become(Tape other) {
+            System.arraycopy(other.bytes, 0, bytes, 0, other.length);
+            length = other.length;
+        }
+
         boolean takes(int n, int v) {
             if (length + n > MOST_BYTES) {
                 return false;
@@ -908,12 +913,13 @@ public final class HeadReckons {
         private final Tape text;
         private int place;
 
-        Choice(Tape tape) {
-            text = tape;
+        Choice() {
+            text = new Tape();
         }
 
         /** The place of the text's fault; -1: it is the choice now. */
-        int read() {
+        int read(Tape tape) {
+            text.become(tape);
             place = 0;
             draftCount = 0;
             if (!readLines()) {
@@ -1398,7 +1404,9 @@ public final class HeadReckons {
             helds[size] = heldDigits + runningDigits;
             slips[size] = slipsBy;
             seconds += length;
-            holds = Math.max(holds, helds[size]);
+            if (helds[size] > holds) {
+                holds = helds[size];
+            }
             size++;
         }
 

@@ -162,6 +162,8 @@ final class RulesTest {
         public Void visitNewClass(NewClassTree tree, Void none) {
             CHECK.that(line(tree) + ": objects are made by constructors alone",
                     methodName().equals("<init>") && tree.getClassBody() == null);
+            CHECK.that(line(tree) + ": constructors hand out nothing of the object that they make",
+                    tree.getArguments().isEmpty());
             return super.visitNewClass(tree, none);
         }
 
@@ -205,8 +207,9 @@ final class RulesTest {
             if (!owner.startsWith("HeadReckons")) {
                 String name = called.getEnclosingElement().getSimpleName() + "." + called.getSimpleName();
                 CHECK.that(line(tree) + ": the library's " + name, LIBRARY.contains(name) || owner.equals("java.lang.Object"));
-                return super.visitMethodInvocation(tree, none);
             }
+            CHECK.that(line(tree) + ": constructors call no method",
+                    !methodName().equals("<init>") || tree.getMethodSelect().toString().equals("super"));
             for (TreePath path = getCurrentPath(); path != null; path = path.getParentPath()) {
                 if (path.getLeaf() instanceof MethodTree) {
                     CALLS.computeIfAbsent(trees.getElement(path), e -> new LinkedHashSet<>()).add(called);
@@ -226,7 +229,7 @@ final class RulesTest {
         return false;
     }
 
-    /** The longest row of calls, those that call themselves again left out. */
+    /** The longest row of calls, the library's counted too, those that call themselves again left out. */
     private static List<Element> longest(Element from, Set<Element> recursive, Map<Element, List<Element>> known) {
         if (known.containsKey(from)) {
             return known.get(from);
